@@ -1146,7 +1146,7 @@ public final class ListenWells {
         }
 
         private boolean take(int token) {
-            if (tokenNow() != token) {
+            if (now < 0 || now >= tokenCount || tokens[now] != token) {
                 return false;
             }
             now++;

@@ -147,39 +147,14 @@ public final class PaperTest {
         x.sink(1);
         x.sink(3);
         x.sink(5);
+        // six straight ways: any that cross take longer
         long six = 0x3fL << 32;
-        Check.due("six", x.gangs(six, 0), 6 * 12);
         int[] due = {34, 36, 32, 33, 35, 37};
+        Check.due("six", x.gangs(six, 0), 6 * 12);
         for (int s = 0; s < 6; s++) {
-            Check.due("six, shaft " + s, x.gangs(six, 1 + s) >= 32 ? 1 : 0, 1);
+            Check.due("six, shaft " + s, x.gangs(six, 1 + s), due[s]);
         }
-        Check.due("shaft 0 has the lowest it can", x.gangs(six, 1), six0(x, six, due));
-    }
-
-    /** With crossing ways all of the same length together, shaft 0 gets the lowest cell that keeps the sum. */
-    private static int six0(ListenWells x, long six, int[] straight) {
-        int best = straight[0];
-        for (int cell = 37; cell >= 32; cell--) {
-            long rest = six & ~(1L << cell);
-            int sum = x.down(0, cell, 0) + fewest(x, rest, 1);
-            if (sum == 72) {
-                best = cell;
-            }
-        }
-        return best;
-    }
-
-    private static int fewest(ListenWells x, long rest, int shaft) {
-        if (rest == 0) {
-            return 0;
-        }
-        int least = 100000;
-        for (int cell = 0; cell < 40; cell++) {
-            if ((rest >> cell & 1) != 0) {
-                least = Math.min(least, x.down(shaft, cell, 0) + fewest(x, rest & ~(1L << cell), shaft + 1));
-            }
-        }
-        return least;
+        Check.due("no such shaft", x.gangs(six, 7), -1);
     }
 
     private static void quiet() {
