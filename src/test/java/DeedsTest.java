@@ -12,6 +12,7 @@ public final class DeedsTest {
         orders();
         ordersUndone();
         undo();
+        undoAroundOrders();
         undoIsCleared();
         Check.end("DeedsTest");
     }
@@ -115,6 +116,14 @@ public final class DeedsTest {
             Check.due("down", deep.dig(0, 1), 8 * depth + 3);
         }
         Check.due("no cell below", deep.dig(0, 1), -3);
+        ListenWells edge = new ListenWells();
+        edge.sink(0);
+        edge.dig(0, 1);
+        Check.due("no cell left at depth 1", edge.dig(0, 0), -3);
+        ListenWells otherEdge = new ListenWells();
+        otherEdge.sink(7);
+        otherEdge.dig(0, 1);
+        Check.due("no cell right at depth 1", otherEdge.dig(0, 2), -3);
     }
 
     private static void haul() {
@@ -209,6 +218,16 @@ public final class DeedsTest {
         Check.due("column", x.who(0, 0), 3);
         Check.due("the if is asked each time", Check.orders(x, "haul 0 times 20 if buckets 0 < 22"), 2);
         Check.due("buckets", x.of(0, 1), 25);
+        x.put(9, 2, 0);
+        Check.due("a haul of nothing is run", Check.orders(x, "haul 0;lie 0 in 6 if latest = 0"), 2);
+        Check.due("column", x.who(0, 0), 6);
+        x.sink(0);
+        Check.due("without such ones", Check.orders(x, "lie 0 in 7 if at 3 = 0 - 1 and buckets 3 = 0 - 1 and column 1 = 0 - 1"), 1);
+        ListenWells first = new ListenWells();
+        first.sink(1);
+        first.listener(5, 0);
+        Check.due("a dig of cell 0 is run", Check.orders(first, "dig 0 by 0;lie 0 in 6 if latest = 0"), 2);
+        Check.due("no cell left of it", Check.orders(first, "dig 0 by 0"), -3);
         Check.due("a BROKEN if is not so", Check.orders(x, "haul 9 if 1 / 0 = 1;haul 9 times 5 if 1 = 2"), 0);
         Check.due("stopped", x.stopped(), -1);
         Check.due("status", x.status(), 0);
@@ -287,6 +306,35 @@ public final class DeedsTest {
         Check.due("dug", x.at(8, 3), 0);
         Check.due("cell", x.of(0, 0), 0);
         Check.due("it can be dug again", x.dig(0, 1), 8);
+    }
+
+    /** What was done ahead of ORDERS can still be undone behind them. */
+    private static void undoAroundOrders() {
+        ListenWells x = new ListenWells();
+        x.put(8, 0, 3);
+        x.put(8, 2, 40);
+        x.terms(0, 50);
+        x.sink(0);
+        x.noise(0, 9);
+        x.listener(2, 2);
+        x.dig(0, 1);
+        x.haul(0);
+        x.haul(0);
+        Check.due("orders", Check.orders(x, "haul 0;hush 0;lie 0 in 5"), 3);
+        Check.due("orders that can't be", Check.orders(x, "lie 0 in 6;haul 1"), -3);
+        int[] deeds = {3, 2, 1, 1, 1, 0};
+        int[] buckets = {15, 15, 10, 5, 0, 0};
+        int[] days = {56, 56, 55, 54, 53, 50};
+        for (int k = 0; k < deeds.length; k++) {
+            Check.due("undo", x.undo(), deeds[k]);
+            Check.due("buckets", x.of(0, 1), buckets[k]);
+            Check.due("water", x.at(8, 2), 40 - buckets[k]);
+            Check.due("day", x.count(15), days[k]);
+        }
+        Check.due("column", x.who(0, 0), 2);
+        Check.due("hushed", x.who(0, 4), 0);
+        Check.due("cell", x.of(0, 0), 0);
+        Check.due("nothing is left", x.undo(), -3);
     }
 
     private static void undoIsCleared() {

@@ -67,6 +67,9 @@ public final class LawsTest {
         test("1 = 1 and 1 = 1 and 1 = 1", true);
         test("1 = 2 or 1 = 1 and 1 = 1 or 1 = 2", true);
         test("not not not 1 = 2 or 1 = 2", true);
+        test("not 1 = 1 or 1 = 2", false);
+        test("not 1 = 1 or not 1 = 2", true);
+        test("not (not 1 = 1) and 1 = 1", true);
     }
 
     private static void broken() {

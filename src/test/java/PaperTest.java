@@ -2,6 +2,7 @@
 public final class PaperTest {
     public static void main(String[] args) {
         down();
+        downAtTheEdges();
         downByLaw();
         gangs();
         gangTies();
@@ -64,6 +65,9 @@ public final class PaperTest {
         x.terms(0, 9999);
         way(x, 1, 18, 12, 1, 9, 17, 18);
         Check.due("dug", x.count(3), 2);
+        // one that can be dug leftwards to cell 0
+        x.put(1, 1, 2);
+        way(x, 1, 0, 5, 1, 0);
         // one that is spoilt, one that has found
         x.terms(0, 0);
         x.put(6, 0, 2);
@@ -74,6 +78,23 @@ public final class PaperTest {
         noWay(x, 2, 5);
         noWay(x, 3, 7);
         noWay(x, 3, 15);
+    }
+
+    /** The CELL behind the edge has another depth: it is not beside, even where the days would be the same. */
+    private static void downAtTheEdges() {
+        ListenWells x = new ListenWells();
+        for (int cell = 1; cell < 7; cell++) {
+            x.put(cell, 1, 9);
+        }
+        for (int cell = 8; cell < 16; cell++) {
+            x.put(cell, 1, 1);
+        }
+        x.put(7, 1, 6);
+        x.sink(0);
+        way(x, 0, 15, 8, 8, 9, 10, 11, 12, 13, 14, 15);
+        x.put(8, 1, 6);
+        x.sink(7);
+        way(x, 1, 9, 7, 15, 14, 13, 12, 11, 10, 9);
     }
 
     private static void downByLaw() {
@@ -189,6 +210,11 @@ public final class PaperTest {
         Check.due("no such what", x.quiet(1, 0, -1), -1);
         x.put(39, 0, 3);
         Check.due("never by that one", x.quiet(1, 39, 0), -1);
+        // noise 7 in column 7, cell 0 is 4 loud there
+        x.listener(7, 3);
+        Check.due("as loud as noise: one must be hushed", x.quiet(4, 0, 0), 1);
+        x.listener(7, 4);
+        Check.due("above noise", x.quiet(8, 0, 0), 0);
         Check.due("nothing is hushed by it", x.din(1), 14);
     }
 

@@ -139,7 +139,7 @@ public final class RandomRunsTest {
             case 40: return call("time", one(0), number(0, 39), number(0, 200));
             case 41: return call("compare", number(-1, 2));
             case 42: return call("seasons", number(0, 1000000), number(1, 60)) && call("drawn", number(0, 5), number(0, 2));
-            case 43: return below(3) != 0 || call(below(2) == 0 ? "image" : "back", number(0, 1));
+            case 43: return call(below(2) == 0 ? "image" : "back", number(0, 1));
             case 44: return call("count", number(0, 17));
             default: return call("status");
         }

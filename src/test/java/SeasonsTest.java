@@ -7,6 +7,8 @@ public final class SeasonsTest {
         lastDay();
         images();
         imagesKeepAll();
+        imagesOfTwoWorlds();
+        imagesOfLore();
         count();
         status();
         Check.end("SeasonsTest");
@@ -162,10 +164,7 @@ public final class SeasonsTest {
         int day = x.drawn(0, 2);
         x.lie(0, 0);
         Check.due("back", x.back(0), 0);
-        long[] now = view(x);
-        for (int k = 0; k < then.length; k++) {
-            Check.due("as it was then, " + k, now[k], then[k]);
-        }
+        same(then, view(x));
         Check.due("not the tape", x.count(8), 20);
         Check.due("not fault", x.fault(), 4);
         Check.due("not mud", x.mud(), 1);
@@ -174,6 +173,59 @@ public final class SeasonsTest {
         Check.due("nothing can be undone", x.count(7), 0);
         Check.due("not what was refused", x.count(11), 1);
         Check.due("not what was refused", x.count(13), 1);
+    }
+
+    /** Two images that share nothing: each comes back whole, again and again. */
+    private static void imagesOfTwoWorlds() {
+        ListenWells x = new ListenWells();
+        x.image(0);
+        fill(x, 1);
+        long[] first = view(x);
+        x.image(1);
+        x.back(0);
+        fill(x, 3);
+        x.haul(0);
+        long[] second = view(x);
+        x.image(0);
+        for (int n = 0; n < 3; n++) {
+            x.back(1);
+            same(first, view(x));
+            Check.due("orders leave it", Check.orders(x, "lie 0 in 7 if 1 = 2"), 0);
+            same(first, view(x));
+            x.back(0);
+            same(second, view(x));
+        }
+    }
+
+    private static void imagesOfLore() {
+        ListenWells x = new ListenWells();
+        x.image(0);
+        x.heard(2, 14);
+        x.well(5, 1);
+        x.well(4, 0);
+        long hidden = x.hidden();
+        x.image(1);
+        x.back(0);
+        Check.due("all hidden", x.hidden(), (1L << 40) - 1);
+        Check.due("no wells", x.tongue(0), 0);
+        x.heard(0, 16);
+        x.well(2, 0);
+        x.well(3, 1);
+        Check.due("another tongue", x.tongue(1), 1);
+        Check.due("others hidden", x.hidden() == hidden ? 1 : 0, 0);
+        x.well(1, 0);
+        Check.due("another tongue", x.tongue(1), 3);
+        x.back(1);
+        Check.due("hidden as it was", x.hidden(), hidden);
+        Check.due("tongue as it was", x.tongue(1), 1);
+        x.well(1, 0);
+        Check.due("tongue behind it", x.tongue(1), 5);
+    }
+
+    private static void same(long[] then, long[] now) {
+        for (int k = 0; k < then.length; k++) {
+            Check.due("as it was then, " + k, now[k], then[k]);
+        }
     }
 
     private static void fill(ListenWells x, int n) {
@@ -195,9 +247,9 @@ public final class SeasonsTest {
         x.terms(1, n);
         x.terms(2, n);
         Check.law(x, "says 30 + " + n);
-        x.force(n - 1);
+        x.force(0);
         x.lie(0, n + 4);
-        x.hush(n);
+        x.hush(n % 2);
     }
 
     private static long[] view(ListenWells x) {

@@ -180,6 +180,11 @@ public final class TapeTest {
         Check.faultyOrders("haul done 1", 10);
         Check.faultyOrders("haul latest 1", 12);
         Check.faultyOrders("haul 1;", 7);
+        Check.faultyOrders("haul bucketss", 5);
+        Check.faultyOrders("haul bucketssays 1", 5);
+        Check.faultyOrders("haul " + times("a", 395), 5);
+        Check.faultyOrders(times(";", 400), 0);
+        Check.faultyOrders("haul" + times(" ", 396), 400);
         ListenWells x = new ListenWells();
         Check.due("all words", Check.orders(x, "haul day+done*latest+at 5-buckets 5/column 4 times 20 if 1=2;hush at0times01if 1>2"), 0);
         Check.due("no fault", x.fault(), -1);
