@@ -36,7 +36,6 @@ public final class ListenWells {
     private static final int WATER = 3;
 
     private static final int LEFT = 0;
-    private static final int DOWN = 1;
     private static final int RIGHT = 2;
 
     private static final int DAY = 0;
@@ -2012,7 +2011,7 @@ public final class ListenWells {
             Arrays.fill(chance, 0);
             chance[0] = CERTAIN;
             for (int day = 0; day < n; day++) {
-                for (int k = days - 1; k >= 0; k--) {
+                for (int k = Math.min(days - 1, day); k >= 0; k--) {
                     chance[k + 1] += chance[k] * (10 - lost) / 10;
                     chance[k] = chance[k] * lost / 10;
                 }
