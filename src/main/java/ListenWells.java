@@ -1275,7 +1275,7 @@ public final class ListenWells {
             for (int n = 0; n < TAPE; n++) {
                 int timing = NONE;
                 for (int m = 0; m < TAPE; m++) {
-                    if (!readPart(brackets) || !writeIfAny(timing)) {
+                    if (!readPart(brackets) || !write(timing, 0)) {
                         return false;
                     }
                     timing = timingOf(tokenNow());
@@ -1284,7 +1284,7 @@ public final class ListenWells {
                     }
                     now++;
                 }
-                if (!writeIfAny(adding)) {
+                if (!write(adding, 0)) {
                     return false;
                 }
                 adding = addingOf(tokenNow());
@@ -1382,11 +1382,11 @@ public final class ListenWells {
             }
         }
 
-        private boolean writeIfAny(int code) {
-            return code == NONE || write(code, 0);
-        }
-
+        /** Whether there was room for it; NONE needs none. */
         private boolean write(int code, int with) {
+            if (code == NONE) {
+                return true;
+            }
             if (draft.length >= draft.code.length) {
                 return false;
             }
