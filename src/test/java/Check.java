@@ -1,7 +1,13 @@
+import java.io.IOException;
+import java.nio.file.Files;
+import java.nio.file.Path;
+
 /** What all tests of the project share: comparing answers, and putting texts on the tape. */
 final class Check {
     private static int wrong;
     private static int looked;
+    private static String document;
+    private static String quoted = "";
 
     private Check() {
     }
@@ -11,9 +17,27 @@ final class Check {
         if (got != want) {
             wrong++;
             if (wrong <= 50) {
-                System.out.println(what + ": answered " + got + ", due is " + want);
+                System.out.println(quoted + what + ": answered " + got + ", due is " + want);
             }
         }
+    }
+
+    /** The sentence by which the next answers are due: it must stand in the document, word by word. */
+    static void sentence(String sentence) {
+        quoted = "";
+        due("the document says \"" + sentence + "\"", document().contains(sentence) ? 1 : 0, 1);
+        quoted = "\"" + sentence + "\": ";
+    }
+
+    private static String document() {
+        if (document == null) {
+            try {
+                document = Files.readString(Path.of(System.getProperty("listenwells.document", "../shared/DOC.md")));
+            } catch (IOException e) {
+                throw new IllegalStateException("the document can't be read", e);
+            }
+        }
+        return document;
     }
 
     /** Ends the program: with exit code 1 if an answer was not the one that was due. */
