@@ -222,6 +222,14 @@ public final class DeedsEdgesTest {
     }
 
     private static void hush() {
+        Check.sentence("To HUSH a NOISE that is not HUSHED.");
+        ListenWells twice = new ListenWells();
+        twice.noise(2, 9);
+        Check.due("once", twice.hush(0), 0);
+        Check.due("hushed", twice.who(0, 4), 1);
+        Check.due("its loudness is still told", twice.who(0, 3), 9);
+        Check.due("not twice", twice.hush(0), -3);
+        Check.due("it stays so", twice.who(0, 4), 1);
         Check.sentence("To HUSH: NOISE in that COLUMN then. -2; -3.");
         ListenWells x = new ListenWells();
         x.noise(0, 20);
@@ -246,6 +254,15 @@ public final class DeedsEdgesTest {
     }
 
     private static void lie() {
+        Check.sentence("To LIE in a COLUMN.");
+        ListenWells all = new ListenWells();
+        all.listener(4, 4);
+        for (int column = 0; column < 8; column++) {
+            Check.due("was in", all.lie(0, column), column == 0 ? 4 : column - 1);
+            Check.due("is in", all.who(0, 0), column);
+        }
+        Check.due("not beyond", all.lie(0, 8), -1);
+        Check.due("is in", all.who(0, 0), 7);
         Check.sentence("To LIE: the COLUMN in which the LISTENER was. -1; -2.");
         ListenWells x = new ListenWells();
         x.listener(0, 3);
@@ -287,7 +304,12 @@ public final class DeedsEdgesTest {
     }
 
     private static void noise() {
-        Check.sentence("of all NOISES that are not HUSHED LOUD less COLUMNS apart, as far as that is above 0, together.");
+        Check.sentence("NOISE in a COLUMN. NONE.");
+        int[] bad = {-1, 8, Integer.MIN_VALUE, Integer.MAX_VALUE};
+        for (int column : bad) {
+            Check.due("no such column", new ListenWells().din(column), -1);
+        }
+        Check.sentence("NOISE in a COLUMN: of all NOISES that are not HUSHED LOUD less COLUMNS apart, as far as that is above 0, together.");
         ListenWells x = new ListenWells();
         for (int column = 0; column < 8; column++) {
             Check.due("no noise", x.din(column), 0);
@@ -442,6 +464,14 @@ public final class DeedsEdgesTest {
         undoneExactly("a second hush", x -> x.hush(0), x -> x.hush(1), 2);
         undoneExactly("a lie", nothing, x -> x.lie(1, 7), 3);
         undoneExactly("a lie where it is", nothing, x -> x.lie(1, 6), 3);
+        Consumer<ListenWells> hushed = x -> {
+            x.hush(0);
+            x.hush(1);
+            x.dig(0, 1);
+        };
+        undoneExactly("a haul where it is hushed", hushed, x -> x.haul(0), 1);
+        undoneExactly("a dig where it is hushed", hushed, x -> x.dig(1, 0), 0);
+        undoneExactly("a lie where it is hushed", hushed, x -> x.lie(0, 0), 3);
         undoneExactly("a dig of another", hauled, x -> x.dig(1, 0), 0);
         undoneExactly("an order", nothing, x -> Check.orders(x, "dig 1 by 1"), 0);
     }
@@ -506,6 +536,21 @@ public final class DeedsEdgesTest {
             Check.due("undo", x.undo(), kind);
         }
         Check.due("no more", x.undo(), -3);
+        // what was done ahead of ORDERS can be undone behind them
+        ListenWells around = ready();
+        around.dig(0, 1);
+        around.haul(0);
+        around.haul(0);
+        Check.orders(around, "haul 0;hush 0;lie 0 in 1");
+        int[] undone = {3, 2, 1, 1, 1, 0, 3};
+        int[] buckets = {15, 15, 10, 5, 0, 0, 0};
+        int[] days = {56, 56, 55, 54, 53, 50, 50};
+        for (int k = 0; k < undone.length; k++) {
+            Check.due("undo", around.undo(), undone[k]);
+            Check.due("buckets", around.of(0, 1), buckets[k]);
+            Check.due("water", around.at(9, 2), 33 - buckets[k]);
+            Check.due("day", around.count(15), days[k]);
+        }
         ListenWells many = new ListenWells();
         many.listener(7, 0);
         Check.orders(many, "lie 0 in done%7 times 20");

@@ -163,7 +163,27 @@ public final class LawsEdgesTest {
         test("2>2", false);
         test("2=2", true);
         test("1=2", false);
+        test("not 2<1", true);
+        test("not 1<2", false);
+        test("not 1>2", true);
+        test("not 2>1", false);
+        test("2<1 and 1=1", false);
+        test("1>2 and 1=1", false);
+        test("2<1 or 1=1", true);
+        test("1>2 or 1=2", false);
         test("1+1=2*1", true);
+        // whatever stands ahead of it or behind it
+        for (int n = 0; n < 5; n++) {
+            String more = "+0".repeat(n);
+            test("1" + more + "=1 or 1=2 and 1=2", true);
+            test("1" + more + "=2 and 1=1 or 1=2", false);
+            test("1=1 or 1" + more + "=2 and 1=2", true);
+            test("1=2 and 1" + more + "=1 or 1=1", true);
+            test("not (1=2 and 1" + more + "=1) and 1" + more + "=1", true);
+            test("1" + more + "=1 or not 1=1", true);
+            test("1" + more + "=2 and not 1=1 or 1=1", true);
+            test("not 1=2 or not 1" + more + "=1 and 1=2", true);
+        }
         test("0-1<0", true);
         Check.sentence("SUM: TERM {(\"+\" | \"-\") TERM}. TERM: PART {(\"*\" | \"/\" | \"%\") PART}.");
         sum("1+2*3", 7);
@@ -266,7 +286,7 @@ public final class LawsEdgesTest {
     }
 
     private static void says() {
-        Check.sentence("0 .. 99 (else the nearest), 20 without");
+        Check.sentence("Water in a CELL SAYS what the last \"says\" that HOLDS tells, 0 .. 99 (else the nearest), 20 without");
         law("says 0", 0);
         law("says 99", 99);
         law("says 100", 99);
@@ -451,6 +471,11 @@ public final class LawsEdgesTest {
         x.listener(0, 0);
         x.noise(0, 1);
         x.noise(0, 1);
+        ListenWells first = new ListenWells();
+        first.sink(1);
+        first.listener(5, 0);
+        Check.due("dig shaft 0 by way 0, into cell 0", Check.orders(first, "dig 0 by 0;lie 0 in latest+2"), 2);
+        Check.due("told 0", first.who(0, 0), 2);
         Check.due("dig shaft 1 by way 0", Check.orders(x, "dig 1 by 0"), 1);
         Check.due("it is in", x.of(1, 0), 5);
         Check.due("dig shaft 0 by way 1", Check.orders(x, "dig 0 by 1"), 1);

@@ -6,6 +6,7 @@ public final class LoreEdgesTest {
         heard();
         forget();
         hiddenWithoutHearsay();
+        hiddenAsBits();
         hiddenJustAsLoud();
         hiddenBelow();
         hiddenKinds();
@@ -83,6 +84,17 @@ public final class LoreEdgesTest {
         Check.due("not dug", x.hidden(), ALL & ~(1L << 23 | 1L | 1L << 8));
         x.undo();
         Check.due("no more dug", x.hidden(), ALL & ~(1L << 23 | 1L));
+    }
+
+    private static void hiddenAsBits() {
+        Check.sentence("HIDDEN: CELLS, as bits.");
+        for (int cell = 0; cell < 40; cell++) {
+            ListenWells x = new ListenWells();
+            Check.law(x, "says 50+cell;loses 0");
+            x.force(0);
+            x.heard(cell % 8, 50 + cell);
+            Check.due("bit of cell " + cell, x.hidden(), 1L << cell);
+        }
     }
 
     private static void hiddenJustAsLoud() {
@@ -196,6 +208,12 @@ public final class LoreEdgesTest {
         Check.law(x, "says 0;loses 9");
         x.force(0);
         nextIs(x, 0, 2);
+        // 0 and 1 are not alike
+        Check.law(x, "says 12;loses 1");
+        x.force(1);
+        nextIs(x, 0, 1);
+        // in column 0 they are 2 and 0
+        nextIs(onlyHidden(36, 37), 0, 1);
     }
 
     private static void nextNone() {
@@ -283,7 +301,7 @@ public final class LoreEdgesTest {
     }
 
     private static void tongueNone() {
-        Check.sentence("how many SOUNDS (what 0), which, as bits (1). NONE (none).");
+        Check.sentence("A TONGUE: how many SOUNDS (what 0), which, as bits (1). NONE (none).");
         tongue(wells(0, 1, 0, 0), -1, -1);
         tongue(wells(63, 0), -1, -1);
         tongue(wells(5, 1, 5, 0), -1, -1);
@@ -381,6 +399,9 @@ public final class LoreEdgesTest {
     }
 
     private static void compareLaws() {
+        Check.sentence("COMPARED. NONE (no such LAW).");
+        Check.due("no law", new ListenWells().compare(0), -1);
+        Check.due("none is no such one", new ListenWells().compare(-1), 0);
         Check.sentence("COMPARED: by a LAW in place of that in FORCE (NONE: none)");
         ListenWells x = new ListenWells();
         x.put(39, 0, 3);

@@ -48,7 +48,7 @@ public final class PaperEdgesTest {
     }
 
     private static void mayBeDugOn() {
-        Check.sentence("A WAY DOWN: from a SHAFT (one that may be dug on)");
+        Check.sentence("A WAY DOWN: from a SHAFT (one that may be dug on) by WAYS to a CELL (salt, water at its end alone)");
         ListenWells x = new ListenWells();
         x.put(1, 0, 2);
         x.put(5, 0, 3);
@@ -168,6 +168,20 @@ public final class PaperEdgesTest {
         noWay(y, 0, 0);
         noWay(y, 0, 1);
         way(y, 0, 15, 21, 9, 10, 11, 12, 13, 14, 15);
+        // the cell behind the edge is not on the way, even where the days would be the same
+        ListenWells edge = new ListenWells();
+        for (int cell = 1; cell < 7; cell++) {
+            edge.put(cell, 1, 9);
+        }
+        for (int cell = 8; cell < 16; cell++) {
+            edge.put(cell, 1, 1);
+        }
+        edge.put(7, 1, 6);
+        edge.sink(0);
+        way(edge, 0, 15, 8, 8, 9, 10, 11, 12, 13, 14, 15);
+        edge.put(8, 1, 6);
+        edge.sink(7);
+        way(edge, 1, 9, 7, 15, 14, 13, 12, 11, 10, 9);
     }
 
     private static void longestWay() {
@@ -258,7 +272,7 @@ public final class PaperEdgesTest {
         Check.due("three for two", x.gangs(1L << 9 | 1L << 17 | 1L << 25, 0), -1);
         x.put(17, 0, 1);
         Check.due("one that can't be", x.gangs(1L << 9 | 1L << 17, 0), -1);
-        Check.sentence("(bits, 6 at most)");
+        Check.sentence("GANGS for told CELLS (bits, 6 at most)");
         ListenWells six = new ListenWells();
         for (int k = 0; k < 6; k++) {
             six.sink(k);
@@ -412,13 +426,22 @@ public final class PaperEdgesTest {
         x.hush(1);
         Check.due("three", x.quiet(1, 0, 0), 3);
         Check.due("the lowest three of those left", x.quiet(1, 0, 1), 0b1101);
+        ListenWells two = new ListenWells();
+        two.put(0, 0, 3);
+        two.listener(0, 0);
+        two.noise(0, 6);
+        two.noise(0, 6);
+        two.noise(0, 12);
+        // 24 against 18: the first two, or the third alone
+        Check.due("one, though a lower number were two", two.quiet(1, 0, 0), 1);
+        Check.due("one, though a lower number were two", two.quiet(1, 0, 1), 0b100);
         ListenWells high = new ListenWells();
         high.put(0, 0, 3);
         high.listener(0, 0);
         high.noise(0, 1);
         high.noise(0, 1);
         high.noise(0, 20);
-        Check.due("one, though a lower number were two", high.quiet(1, 0, 1), 0b100);
+        Check.due("the loud one", high.quiet(1, 0, 1), 0b100);
         high.noise(7, 20);
         high.listener(7, 12);
         // in column 7 it is 4 and 12 against 13 and 20: both loud ones
@@ -527,7 +550,8 @@ public final class PaperEdgesTest {
     }
 
     private static void timeThunder() {
-        Check.sentence("when in THUNDER of ten a day is lost");
+        Check.sentence("IN TIME: the chance, of 1,000,000,000,000 parts, that the quickest WAY DOWN is dug in n days,"
+            + " when in THUNDER of ten a day is lost");
         ListenWells x = new ListenWells();
         x.put(8, 1, 1);
         x.put(16, 1, 1);

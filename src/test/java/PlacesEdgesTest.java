@@ -4,6 +4,8 @@ public final class PlacesEdgesTest {
     private static final int MOST = Integer.MAX_VALUE;
 
     public static void main(String[] args) {
+        constants();
+        newObject();
         cells();
         gangCells();
         columns();
@@ -25,9 +27,55 @@ public final class PlacesEdgesTest {
         putTellsWhatWas();
         kindOfDug();
         atWhat();
+        sinkTells();
         ofWhat();
+        listenerTells();
+        noiseTells();
         whoWhat();
+        termsTell();
         Check.end("PlacesEdgesTest");
+    }
+
+    private static void constants() {
+        Check.sentence("`NONE = -1`: There is none.");
+        Check.due("NONE", ListenWells.NONE, -1);
+        Check.due("no force", new ListenWells().force(ListenWells.NONE), ListenWells.NONE);
+        Check.sentence("`NOTHING = -100000`: What is not there, where it could be below 0.");
+        Check.due("NOTHING", ListenWells.NOTHING, -100000);
+        Check.due("no cell", new ListenWells().loud(40, 0), ListenWells.NOTHING);
+    }
+
+    private static void newObject() {
+        Check.sentence("`ListenWells()`: Dry rock.");
+        ListenWells x = new ListenWells();
+        int[] due = {0, 3, 0, 0, 20, 2};
+        for (int cell = 0; cell < 40; cell++) {
+            for (int what = 0; what < due.length; what++) {
+                Check.due("at(" + cell + ", " + what + ")", x.at(cell, what), due[what]);
+            }
+            Check.due("no vein", x.vein(cell, 0), -1);
+        }
+        int[] counts = {0, 0, 0, 0, 0, 0, 0, 0, 0, 0, 0, 0, 0, 0, -1, 0, 2, 0};
+        for (int what = 0; what < counts.length; what++) {
+            Check.due("count(" + what + ")", x.count(what), counts[what]);
+        }
+        Check.due("status", x.status(), 0);
+        Check.due("fault", x.fault(), -1);
+        Check.due("stopped", x.stopped(), -1);
+        Check.due("mud", x.mud(), 0);
+        Check.due("drawn", x.drawn(0, 2), -1);
+        Check.due("hidden", x.hidden(), (1L << 40) - 1);
+        Check.due("tongue", x.tongue(1), 0);
+        Check.due("undo", x.undo(), -3);
+        Check.due("back", x.back(0), -2);
+        Check.due("back", x.back(1), -2);
+        ListenWells other = new ListenWells();
+        other.put(0, 0, 3);
+        other.sink(0);
+        other.terms(1, 9);
+        Check.due("one is not another", x.at(0, 0), 0);
+        Check.due("one is not another", x.count(0), 0);
+        Check.due("one is not another", x.count(16), 2);
     }
 
     private static void cells() {
@@ -469,7 +517,7 @@ public final class PlacesEdgesTest {
     }
 
     private static void kindOfDug() {
-        Check.sentence("-3 KIND of one that is DUG");
+        Check.sentence("-1; -3 KIND of one that is DUG.");
         ListenWells x = new ListenWells();
         x.sink(2);
         x.dig(0, 1);
@@ -505,7 +553,83 @@ public final class PlacesEdgesTest {
         }
     }
 
+    private static void sinkTells() {
+        Check.sentence("To SINK a SHAFT: its number. -1; -3; -5.");
+        ListenWells x = new ListenWells();
+        x.put(6, 0, 1);
+        int[] columns = {5, 3, 3, 6, 8, -1, 0, 1, 2, 4, 7, 7, 3};
+        int[] due = {0, 1, -3, -3, -1, -1, 2, 3, 4, 5, -5, -5, -3};
+        for (int k = 0; k < columns.length; k++) {
+            Check.due("sink(" + columns[k] + ")", x.sink(columns[k]), due[k]);
+        }
+        int[] cells = {5, 3, 0, 1, 2, 4};
+        for (int k = 0; k < 6; k++) {
+            Check.due("of(" + k + ", 0)", x.of(k, 0), cells[k]);
+        }
+    }
+
+    private static void listenerTells() {
+        Check.sentence("A LISTENER: the number. -1; -5.");
+        ListenWells x = new ListenWells();
+        Check.due("first", x.listener(7, 20), 0);
+        Check.due("no such ear", x.listener(7, 21), -1);
+        Check.due("second", x.listener(0, 0), 1);
+        Check.due("no such column", x.listener(8, 0), -1);
+        for (int k = 2; k < 5; k++) {
+            Check.due("next", x.listener(0, 0), k);
+        }
+        Check.due("no room", x.listener(0, 0), -5);
+        Check.due("the first stays", x.who(0, 1), 20);
+    }
+
+    private static void noiseTells() {
+        Check.sentence("A NOISE: its number. -1; -5.");
+        ListenWells x = new ListenWells();
+        Check.due("first", x.noise(7, 20), 0);
+        Check.due("not so loud", x.noise(7, 21), -1);
+        Check.due("second", x.noise(0, 0), 1);
+        Check.due("no such column", x.noise(8, 0), -1);
+        for (int k = 2; k < 6; k++) {
+            Check.due("next", x.noise(0, 0), k);
+        }
+        Check.due("no room", x.noise(0, 0), -5);
+        x.hush(0);
+        Check.due("no room for one that is hushed", x.noise(0, 0), -5);
+        Check.due("the first stays", x.who(0, 3), 20);
+    }
+
+    private static void termsTell() {
+        Check.sentence("A TERM: what it was. -1.");
+        ListenWells x = new ListenWells();
+        Check.due("day", x.terms(0, 17), 0);
+        Check.due("day", x.terms(0, 18), 17);
+        Check.due("thunder", x.terms(1, 7), 2);
+        Check.due("thunder", x.terms(1, 8), 7);
+        Check.due("mood", x.terms(2, 3), 0);
+        Check.due("mood", x.terms(2, 4), 3);
+        Check.due("too much of it", x.terms(2, 10), -1);
+        Check.due("as it was", x.terms(2, 0), 4);
+        x.sink(0);
+        x.dig(0, 1);
+        Check.due("what days went by", x.terms(0, 0), 21);
+    }
+
     private static void ofWhat() {
+        Check.sentence("Of a SHAFT the CELL (what 0), BUCKETS (1), SPOILT (2: 1, 0), FOUND (3: 1, 0), what it HAS of its VEIN");
+        ListenWells all = new ListenWells();
+        all.put(2, 0, 2);
+        all.put(3, 0, 3);
+        all.put(3, 2, 12);
+        all.sink(1);
+        all.sink(2);
+        all.sink(3);
+        all.haul(2);
+        int[][] due = {{1, 0, 0, 0, 0}, {2, 0, 1, 0, 0}, {3, 5, 0, 1, 7}};
+        for (int shaft = 0; shaft < 3; shaft++) {
+            for (int what = 0; what < 5; what++) {
+                Check.due("of(" + shaft + ", " + what + ")", all.of(shaft, what), due[shaft][what]);
+            }
+        }
         Check.sentence("what it HAS of its VEIN (4; 0: not FOUND). NONE.");
         ListenWells x = new ListenWells();
         x.put(1, 0, 3);

@@ -25,7 +25,8 @@ public final class RandomRunsTest {
     }
 
     private void run(long seed) throws Exception {
-        int deeds = 20 + random.nextInt(492);
+        // an object is used for at most 512 calls, and a step may take some thirty
+        int deeds = 20 + random.nextInt(460);
         if (random.nextInt(4) != 0) {
             prepare();
         }

@@ -359,6 +359,8 @@ public final class RefusalsEdgesTest {
         for (int what : bad) {
             Check.due("no such count", x.count(what), -1);
         }
+        Check.sentence("0 SHAFTS, 1 LISTENERS, 2 NOISES, 3 CELLS that are DUG, 4 HEARSAY, 5 WELLS, 6 LAWS, 7 how many can be undone,"
+            + " 8 bytes of the TAPE");
         int[] due = {3, 1, 2, 4, 1, 2, 1, 1, 0};
         for (int what = 0; what < due.length; what++) {
             Check.due("count(" + what + ")", x.count(what), due[what]);

@@ -32,7 +32,7 @@ public final class RoomTest {
         }
         Check.tape(x, "lie 0 in done % 8 times 20");
         start = made();
-        for (int n = 0; n < 30; n++) {
+        for (int n = 0; n < 25; n++) {
             x.gangs(0x1f00, 3);
             x.down(0, 30, 2);
             x.time(0, 30, 200);
@@ -51,7 +51,7 @@ public final class RoomTest {
             x.undo();
         }
         long calls = made() - start;
-        Check.due("bytes of 480 calls " + calls, calls < 1000 ? 1 : 0, 1);
+        Check.due("bytes of 400 calls " + calls, calls < 1000 ? 1 : 0, 1);
         Check.tape(x, law);
         start = made();
         x.law();

@@ -111,6 +111,16 @@ public final class SeasonsEdgesTest {
 
     private static void digsThen() {
         Check.sentence("else it DIGS that WAY, if it can");
+        for (int seed = 0; seed < 9; seed++) {
+            boolean left = draw(draw(seed)) % 3 == 0;
+            ListenWells edge = new ListenWells();
+            edge.put(2, 0, 1);
+            edge.put(9, 0, 1);
+            edge.sink(1);
+            edge.seasons(seed, 1);
+            Check.due("cell 0 can be dug, seed " + seed, edge.drawn(0, 0), left ? 0 : 1);
+            Check.due("in its days alone, seed " + seed, edge.drawn(0, 2), left ? 3 : 1);
+        }
         ListenWells x = new ListenWells();
         Check.law(x, "digs 10+depth");
         x.force(0);
@@ -424,9 +434,10 @@ public final class SeasonsEdgesTest {
         x.listener(n, n);
         x.noise(n, 10 + n);
         x.noise(n + 2, 11 + n);
-        x.heard(n, 14);
-        x.well(n, 1);
-        x.well(n + 8, 0);
+        x.heard(n, n == 1 ? 25 : 27);
+        // another tongue for each n, and the wet one is not always the first
+        x.well(n == 1 ? 0b000010 : 0b110111, n == 1 ? 1 : 0);
+        x.well(n == 1 ? 0b111101 : 0b001000, n == 1 ? 0 : 1);
         x.terms(0, 100 * n);
         x.terms(1, n);
         x.terms(2, n);
@@ -443,12 +454,15 @@ public final class SeasonsEdgesTest {
         for (int k = 0; k < 2; k++) {
             ListenWells kept = new ListenWells();
             fill(kept, 1);
+            // ahead of going back all is another: nothing of it may be left
             ListenWells x = new ListenWells();
+            x.image(1 - k);
             fill(x, 1);
             x.image(k);
-            fill(x, 2);
-            x.forget();
-            x.put(39, 2, 99);
+            x.back(1 - k);
+            fill(x, 3);
+            x.heard(3, 30);
+            x.well(9, 1);
             Check.due("back", x.back(k), 0);
             // what can be undone is kept by none: the other one gets rid of it, too
             kept.image(k);

@@ -7,6 +7,7 @@ public final class SeasonsTest {
         lastDay();
         images();
         imagesKeepAll();
+        imagesKeepNotAll();
         imagesOfTwoWorlds();
         imagesOfLore();
         count();
@@ -56,6 +57,13 @@ public final class SeasonsTest {
     }
 
     private static void seasonsByHand() {
+        for (int seed = 0; seed < 200; seed += 7) {
+            byHand(dayLaws(), seed, 60);
+            byHand(dayLaws(), 1000000 - seed, 33);
+        }
+    }
+
+    private static ListenWells dayLaws() {
         ListenWells x = new ListenWells();
         x.sink(2);
         x.sink(5);
@@ -64,16 +72,12 @@ public final class SeasonsTest {
         x.put(10, 0, 1);
         Check.law(x, "gives day;passes if day > 30;digs 1 + day / 10");
         x.force(0);
-        for (int seed = 0; seed < 200; seed += 7) {
-            byHand(x, seed, 60);
-            byHand(x, 1000000 - seed, 33);
-        }
+        return x;
     }
 
-    /** Does as the SEASONS would, call by call, and goes back. */
+    /** Does as the SEASONS would, call by call. */
     private static void byHand(ListenWells x, int seed, int n) {
         int told = x.seasons(seed, n);
-        x.image(0);
         long s = seed;
         int came = 0;
         for (int k = 0; k < n; k++) {
@@ -94,7 +98,6 @@ public final class SeasonsTest {
             Check.due("buckets", x.drawn(shaft, 1), x.of(shaft, 1));
         }
         Check.due("day", x.drawn(0, 2), x.count(15));
-        x.back(0);
     }
 
     private static void lastDay() {
@@ -150,11 +153,23 @@ public final class SeasonsTest {
     }
 
     private static void imagesKeepAll() {
+        ListenWells then = new ListenWells();
+        fill(then, 1);
+        // nothing can be undone behind a back(), so nothing may be here
+        then.terms(2, 1);
         ListenWells x = new ListenWells();
         fill(x, 1);
-        long[] then = view(x);
         x.image(0);
         fill(x, 2);
+        x.lie(0, 0);
+        Check.due("back", x.back(0), 0);
+        View.of(x).mustBe("as it was then", View.of(then));
+    }
+
+    private static void imagesKeepNotAll() {
+        ListenWells x = new ListenWells();
+        x.sink(2);
+        x.image(0);
         Check.orders(x, "haul 9");
         Check.law(x, "digs");
         Check.tape(x, "\1\1\1\1");
@@ -162,9 +177,7 @@ public final class SeasonsTest {
         x.feed(0, 0, 0, 0, 0);
         x.seasons(4, 4);
         int day = x.drawn(0, 2);
-        x.lie(0, 0);
         Check.due("back", x.back(0), 0);
-        same(then, view(x));
         Check.due("not the tape", x.count(8), 20);
         Check.due("not fault", x.fault(), 4);
         Check.due("not mud", x.mud(), 1);
@@ -177,23 +190,23 @@ public final class SeasonsTest {
 
     /** Two images that share nothing: each comes back whole, again and again. */
     private static void imagesOfTwoWorlds() {
-        ListenWells x = new ListenWells();
-        x.image(0);
-        fill(x, 1);
-        long[] first = view(x);
-        x.image(1);
-        x.back(0);
-        fill(x, 3);
-        x.haul(0);
-        long[] second = view(x);
-        x.image(0);
-        for (int n = 0; n < 3; n++) {
-            x.back(1);
-            same(first, view(x));
-            Check.due("orders leave it", Check.orders(x, "lie 0 in 7 if 1 = 2"), 0);
-            same(first, view(x));
+        for (int n = 0; n < 6; n++) {
+            ListenWells x = new ListenWells();
+            x.image(0);
+            fill(x, 1);
+            x.image(1);
             x.back(0);
-            same(second, view(x));
+            fill(x, 3);
+            x.image(0);
+            for (int k = 0; k <= n; k++) {
+                x.back(1 - k % 2);
+                Check.due("orders leave it", Check.orders(x, "lie 0 in 7 if 1 = 2"), 0);
+            }
+            ListenWells alone = new ListenWells();
+            fill(alone, n % 2 == 0 ? 1 : 3);
+            Check.orders(alone, "lie 0 in 7 if 1 = 2");
+            alone.terms(2, alone.count(17));
+            View.of(x).mustBe("as it was then", View.of(alone));
         }
     }
 
@@ -222,12 +235,6 @@ public final class SeasonsTest {
         Check.due("tongue behind it", x.tongue(1), 5);
     }
 
-    private static void same(long[] then, long[] now) {
-        for (int k = 0; k < then.length; k++) {
-            Check.due("as it was then, " + k, now[k], then[k]);
-        }
-    }
-
     private static void fill(ListenWells x, int n) {
         for (int cell = 8; cell < 40; cell++) {
             x.put(cell, 0, (cell + n) % 4);
@@ -250,31 +257,6 @@ public final class SeasonsTest {
         x.force(0);
         x.lie(0, n + 4);
         x.hush(n % 2);
-    }
-
-    private static long[] view(ListenWells x) {
-        long[] seen = new long[700];
-        int k = 0;
-        for (int cell = 0; cell < 40; cell++) {
-            for (int what = 0; what < 6; what++) {
-                seen[k++] = x.at(cell, what);
-            }
-            seen[k++] = x.vein(cell, 1);
-        }
-        for (int who = 0; who < 6; who++) {
-            for (int what = 0; what < 5; what++) {
-                seen[k++] = x.of(who, what);
-                seen[k++] = x.who(who, what);
-            }
-        }
-        for (int what = 0; what < 18; what++) {
-            seen[k++] = what == 7 || what == 8 || what >= 9 && what <= 13 ? 0 : x.count(what);
-        }
-        seen[k++] = x.hidden();
-        seen[k++] = x.tongue(1);
-        seen[k++] = x.next(0);
-        seen[k++] = x.compare(0);
-        return seen;
     }
 
     private static void count() {

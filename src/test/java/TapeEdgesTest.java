@@ -172,6 +172,8 @@ public final class TapeEdgesTest {
         badLaw(eleven + "^");
         badLaw("^;passes");
         badLaw("passes;^;passes");
+        badLaw("^" + ";".repeat(400));
+        badOrders("^" + ";".repeat(400));
         String elevenHauls = "haul 9 if 1=2;".repeat(11);
         goodOrders(elevenHauls + "haul 9");
         badOrders(elevenHauls + "haul 9;^haul 9");
@@ -337,7 +339,7 @@ public final class TapeEdgesTest {
         badOrders("dig 1 ^");
         badOrders("dig 1 by ^");
         badOrders("haul 1 times  ^");
-        Check.sentence("blanks alone: FAULT at the end");
+        Check.sentence("-6 (blanks alone: FAULT at the end)");
         badLaw("^");
         badLaw(" ^");
         badLaw(" ".repeat(400) + "^");
@@ -524,7 +526,7 @@ public final class TapeEdgesTest {
     }
 
     private static void ordersEmptyTheTape() {
-        Check.sentence("ORDERS, the TAPE is empty then: how many were run.");
+        Check.sentence("ORDERS, the TAPE is empty then: how many were run. -3 one can't be; -6 (as for law()).");
         String[] texts = {"haul 9 if 1=2", "haul 9", "haul"};
         int[] due = {0, -3, -6};
         for (int k = 0; k < texts.length; k++) {
