@@ -247,6 +247,11 @@ public final class LoreEdgesTest {
         Check.law(x, "loses 0;says 97+column-3 if kind=3");
         x.force(2);
         nextIs(x, 0, 1);
+        // at most alike in columns 0 to 7: 4, 3, 4, 3, 3, 4, 4, 4; there is no column 8, in which 2 would be
+        ListenWells beyond = new ListenWells();
+        Check.law(beyond, "says cell*28%37+40;loses cell%3");
+        beyond.force(0);
+        nextIs(beyond, 1, 3);
     }
 
     private static void well() {
